@@ -105,25 +105,20 @@ public final class StoragePath {
     // ---- commands
 
     public int read(int tag, int sector, int many) {
-        int refused = refusal(tag, sector, many);
-        return refused < 0 ? refused : issue(tag, READ, sector, many);
+        return issue(tag, READ, sector, many);
     }
 
     public int write(int tag, int sector, int many, boolean through, int a, int b, int c, int d) {
-        int refused = refusal(tag, sector, many);
-        if (refused < 0) {
-            return refused;
-        }
+        int answer = issue(tag, through ? THROUGH : WRITE, sector, many);
         Command command = commandOf(tag);
-        if (command != null) {
+        if (answer > 0 && command != null) {
             command.setNumbers(a, b, c, d);
         }
-        return issue(tag, through ? THROUGH : WRITE, sector, many);
+        return answer;
     }
 
     public int flush(int tag) {
-        int refused = refusal(tag, 0, 1);
-        return refused < 0 ? refused : issue(tag, FLUSH, 0, 0);
+        return issue(tag, FLUSH, 0, 0);
     }
 
     public int step() {
@@ -228,22 +223,17 @@ public final class StoragePath {
         return many;
     }
 
-    /** Why a new command can't be issued, the first reason that fits; 0: it can. */
-    private int refusal(int tag, int first, int many) {
-        Command command = commandOf(tag);
-        if (command == null) {
-            return UNKNOWN;
-        }
-        if (first < 0 || first >= NAMED_SECTORS || many < 1 || many > MOST_MANY) {
-            return OUTSIDE;
-        }
-        return command.stage == FREE ? 0 : NOT;
-    }
-
+    /** 1, or why the command is refused: the first reason that fits. */
     private int issue(int tag, int kind, int first, int many) {
         Command command = commandOf(tag);
         if (command == null) {
             return UNKNOWN;
+        }
+        if (kind != FLUSH && (first < 0 || first >= NAMED_SECTORS || many < 1 || many > MOST_MANY)) {
+            return OUTSIDE;
+        }
+        if (command.stage != FREE) {
+            return NOT;
         }
         command.begin(kind, first, many, issuedSoFar);
         issuedSoFar++;
