@@ -13,6 +13,10 @@ final class Due {
         }
     }
 
+    void same(String what, String got, String want) {
+        holds(what + " is " + got + ", due is " + want, got.equals(want));
+    }
+
     void holds(String what, boolean true_) {
         is(what, true_ ? 1 : 0, 1);
     }
