@@ -3,7 +3,7 @@ public final class EdgeFrameTest {
     private static final Due DUE = new Due();
     private static final int UNKNOWN = StoragePath.UNKNOWN, OUTSIDE = StoragePath.OUTSIDE;
     private static final int NOT = StoragePath.NOT, FULL = StoragePath.FULL;
-    /** THE SCRAMBLE of the longest frame, worked out by hand from the terms. */
+    /** THE SCRAMBLE of the longest frame, worked out from the terms by another program. */
     private static final int[] SCRAMBLE = {177, 110, 75, 67, 22, 205, 100, 248, 54, 194, 16, 165, 42, 203, 74, 44};
     /** The frame of the byte 177, the first of THE SCRAMBLE: its first even word is number 0. */
     private static final String OF_177 = Calls.bitsOf(123, 31, 611, 454, 454, 709, 898);
